@@ -484,13 +484,6 @@ public final class AerialSurvey {
         int last;
         int spacing;
 
-        Strip() {
-            row = 0;
-            first = 0;
-            last = 0;
-            spacing = 1;
-        }
-
         void put(int newRow, int newFirst, int newLast, int newSpacing) {
             row = newRow;
             first = newFirst;
@@ -536,7 +529,6 @@ public final class AerialSurvey {
         private final Strip[] strips;
 
         StripList() {
-            count = 0;
             strips = new Strip[MOST_STRIPS];
             for (int strip = 0; strip < strips.length; strip++) {
                 strips[strip] = new Strip();
@@ -628,12 +620,6 @@ public final class AerialSurvey {
         private int other;
         private int both;
 
-        Overlap() {
-            one = 0;
-            other = 0;
-            both = 0;
-        }
-
         void clear() {
             one = 0;
             other = 0;
@@ -659,9 +645,6 @@ public final class AerialSurvey {
         private final StripList trial;
 
         Planner() {
-            rowSpacing = 1;
-            photoSpacing = 1;
-            photos = 0;
             trial = new StripList();
         }
 
@@ -725,8 +708,6 @@ public final class AerialSurvey {
 
         Router() {
             timeLeft = new int[(1 << MOST_STRIPS) * MOST_STEPS];
-            chosenStep = NONE;
-            chosenTime = 0;
         }
 
         int fastestTime(StripList strips, Aircraft aircraft, int baseRow, int baseColumn) {

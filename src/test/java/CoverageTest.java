@@ -13,6 +13,7 @@ public final class CoverageTest {
         gapsWrong();
         forwardOverlap();
         sideOverlap();
+        overlapsAtTheTerrainsEdges();
         Due.end();
     }
 
@@ -112,6 +113,12 @@ public final class CoverageTest {
         x.setHeight(2, 1, 601);
         Due.due("a higher target, blocked", x.seesCell(0, 0, 2, 2), 0);
         Due.due("the hill itself", x.seesCell(0, 0, 2, 1), 1);
+        // The second of two cells on the way lies under a lower part of the line.
+        AerialSurvey y = onePhotoAt(2, 0);
+        y.setHeight(2, 2, 333);
+        Due.due("far on the way, free", y.seesCell(0, 0, 2, 3), 1);
+        y.setHeight(2, 2, 334);
+        Due.due("far on the way, blocked", y.seesCell(0, 0, 2, 3), 0);
         // The ground below the photo and at the target never blocks.
         x.setHeight(2, 0, 999);
         x.setHeight(2, 1, 0);
@@ -237,6 +244,27 @@ public final class CoverageTest {
         Due.due("the first sees no cell", x.forwardOverlap(0, 0), 0);
         x.setHeight(2, 4, 100);
         Due.due("both see no cell", x.forwardOverlap(0, 0), 0);
+    }
+
+    private static void overlapsAtTheTerrainsEdges() {
+        AerialSurvey x = new AerialSurvey();
+        x.addStrip(2, 0, 9, 4);
+        x.setHeight(0, 1, 999);
+        Due.due("14 of 19 cells", x.forwardOverlap(0, 0), 73);
+        AerialSurvey y = new AerialSurvey();
+        y.addStrip(5, 0, 9, 4);
+        y.setHeight(3, 1, 999);
+        Due.due("8 of 11 cells", y.forwardOverlap(0, 0), 72);
+        AerialSurvey z = new AerialSurvey();
+        z.resize(6, 4);
+        z.addStrip(0, 1, 1, 1);
+        z.addStrip(3, 1, 1, 1);
+        z.setHeight(0, 0, 999);
+        Due.due("8 of 11 cells of two strips", z.sideOverlap(0, 1), 72);
+        AerialSurvey w = new AerialSurvey();
+        w.addStrip(2, 4, 4, 1);
+        w.addStrip(2, 0, 0, 1);
+        Due.due("15 of 20 cells of two strips", w.sideOverlap(0, 1), 75);
     }
 
     private static void sideOverlap() {

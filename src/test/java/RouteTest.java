@@ -33,6 +33,11 @@ public final class RouteTest {
         x.setSpeed(50, -40, 0);
         Due.due("against the greatest wind", x.stripTime(0, true), 700);
         Due.due("rounded down", x.stripTime(0, false), 77);
+        x.resize(3, 16);
+        x.addStrip(0, 0, 15, 1);
+        x.addStrip(1, 0, 15, 1);
+        Due.due("the longest time", x.stripTime(0, true), 1500);
+        Due.due("the longest strip with the wind", x.stripTime(0, false), 166);
         Due.due("stripTime(2, true)", x.stripTime(2, true), -2);
         Due.due("stripTime(-1, false)", x.stripTime(-1, false), -2);
     }
@@ -96,6 +101,11 @@ public final class RouteTest {
         dueRoute(x, 1, 1, 7, 0);
         dueRoute(x, 1, 2, 10, 0);
         dueRoute(x, 2, 2, 13, 0);
+        x.resize(3, 16);
+        x.addStrip(2, 15, 15, 1);
+        x.setSpeed(52, 0, 0);
+        // 17 * 1000 / 52 = 326.92
+        dueRoute(x, 0, 0, 326, 0);
     }
 
     private static void eightStrips() {

@@ -136,6 +136,8 @@ public final class TerrainTest {
         Due.due("distance 3", x.height(5, 5), 0);
         Due.due("distance 3", x.height(2, 8), 0);
         Due.due("raiseHill(0, 0, 1, 10)", x.raiseHill(0, 0, 1, 10), 4);
+        Due.due("raiseHill(0, 9, 1, 10)", x.raiseHill(0, 9, 1, 10), 4);
+        Due.due("raiseHill(5, 0, 1, 10)", x.raiseHill(5, 0, 1, 10), 4);
         Due.due("raiseHill(5, 9, 0, 1)", x.raiseHill(5, 9, 0, 1), 1);
         Due.due("raiseHill(2, 5, 0, 100)", x.raiseHill(2, 5, 0, 100), 1);
         Due.due("a second rise", x.height(2, 5), 400);
