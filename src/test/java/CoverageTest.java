@@ -255,6 +255,10 @@ public final class CoverageTest {
         y.addStrip(5, 0, 9, 4);
         y.setHeight(3, 1, 999);
         Due.due("8 of 11 cells", y.forwardOverlap(0, 0), 72);
+        AerialSurvey v = new AerialSurvey();
+        v.addStrip(0, 0, 9, 4);
+        v.setHeight(2, 1, 999);
+        Due.due("8 of 11 cells in the first rows", v.forwardOverlap(0, 0), 72);
         AerialSurvey z = new AerialSurvey();
         z.resize(6, 4);
         z.addStrip(0, 1, 1, 1);
