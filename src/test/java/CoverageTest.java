@@ -123,6 +123,10 @@ public final class CoverageTest {
         x.setHeight(2, 0, 999);
         x.setHeight(2, 1, 0);
         Due.due("from above a hill", x.seesCell(0, 0, 2, 2), 1);
+        x.setAltitude(500);
+        x.setFields(50, 50);
+        Due.due("from below the ground, its own cell", x.seesCell(0, 0, 2, 0), 0);
+        Due.due("from below the ground, a cell beyond", x.seesCell(0, 0, 2, 2), 1);
     }
 
     private static void seesCellWrong() {

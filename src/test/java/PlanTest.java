@@ -2,6 +2,7 @@
 public final class PlanTest {
     public static void main(String[] args) {
         greatestSpacingsAmongEquals();
+        noPlanWithTheFirstRowAlone();
         mostStrips();
         plansLeaveTheStrips();
         applyPlan();
@@ -42,6 +43,16 @@ public final class PlanTest {
         duePlan(x, 7, 8, 3, 3);
         duePlan(x, 8, 8, 3, 3);
         duePlan(x, 9, 9, 2, 4);
+    }
+
+    private static void noPlanWithTheFirstRowAlone() {
+        AerialSurvey x = new AerialSurvey();
+        x.resize(3, 4);
+        x.setFields(50, 2);
+        x.setHeight(0, 0, 600);
+        // One strip in row 0 would see all; but a plan's only strip lies in row 1 here, too far
+        // from the hill.
+        duePlan(x, 1, 3, 1, 4);
     }
 
     private static void mostStrips() {
