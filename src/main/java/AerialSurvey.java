@@ -34,6 +34,7 @@ public final class AerialSurvey {
     private static final int MOST_TURN_TIME = 500;
     private static final int MOST_SPACING = 16;
     private static final int MOST_STRIPS = 8;
+    private static final int MOST_PHOTOS = MOST_STRIPS * MOST_COLUMNS;
     private static final int MOST_REQUIRED = 9;
 
     private final Terrain terrain;
@@ -223,7 +224,7 @@ public final class AerialSurvey {
         if (!terrain.contains(row, column)) {
             return OUTSIDE_TERRAIN;
         }
-        return strips.views(terrain, camera, row, column, Integer.MAX_VALUE);
+        return strips.views(terrain, camera, row, column, MOST_PHOTOS);
     }
 
     public int gapCount(int required) {
@@ -541,15 +542,21 @@ public final class AerialSurvey {
 
         /** The strip with this number, or null. */
         Strip find(int strip) {
-            return strip >= 0 && strip < count ? strips[strip] : null;
+            return strip < count ? slot(strip) : null;
+        }
+
+        /** Where the strip with this number is or would be held; null if there is no room. */
+        private Strip slot(int strip) {
+            return strip >= 0 && strip < strips.length ? strips[strip] : null;
         }
 
         /** The number of the new strip, or FULL. */
         int add(int row, int first, int last, int spacing) {
-            if (count >= strips.length) {
+            Strip free = slot(count);
+            if (free == null) {
                 return FULL;
             }
-            strips[count].put(row, first, last, spacing);
+            free.put(row, first, last, spacing);
             count++;
             return count - 1;
         }
@@ -558,9 +565,12 @@ public final class AerialSurvey {
             if (find(strip) == null) {
                 return;
             }
-            for (int place = strip; place + 1 < count; place++) {
-                Strip next = strips[place + 1];
-                strips[place].put(next.row, next.first, next.last, next.spacing);
+            for (int number = strip; number + 1 < count; number++) {
+                Strip here = find(number);
+                Strip next = find(number + 1);
+                if (here != null && next != null) {
+                    here.put(next.row, next.first, next.last, next.spacing);
+                }
             }
             count--;
         }
@@ -581,8 +591,9 @@ public final class AerialSurvey {
 
         int photoTotal() {
             int total = 0;
-            for (int strip = 0; strip < count; strip++) {
-                total += strips[strip].photos();
+            for (int number = 0; number < count; number++) {
+                Strip strip = find(number);
+                total += strip != null ? strip.photos() : 0;
             }
             return total;
         }
@@ -591,7 +602,10 @@ public final class AerialSurvey {
         int views(Terrain terrain, Camera camera, int row, int column, int limit) {
             int views = 0;
             for (int number = 0; number < count; number++) {
-                Strip strip = strips[number];
+                Strip strip = find(number);
+                if (strip == null) {
+                    return views;
+                }
                 int photos = strip.photos();
                 for (int photo = 0; photo < photos && views < limit; photo++) {
                     if (camera.sees(terrain, strip.row, strip.columnOf(photo), row, column)) {
@@ -740,7 +754,7 @@ public final class AerialSurvey {
                     if (flown != null && !isIn(unflown, step / 2)) {
                         int column = flown.exitColumn(isEastbound(step));
                         choose(strips, aircraft, unflown, flown.row, column);
-                        timeLeft[unflown * MOST_STEPS + step] = chosenTime;
+                        putTimeLeft(unflown, step, chosenTime);
                     }
                 }
             }
@@ -758,12 +772,24 @@ public final class AerialSurvey {
                     int rest = unflown & ~(1 << step / 2);
                     int time = aircraft.transferTime(row, column, next, eastbound)
                             + aircraft.flightTime(next, eastbound)
-                            + timeLeft[rest * MOST_STEPS + step];
+                            + timeLeftAt(rest, step);
                     if (chosenStep == NONE || time < chosenTime) {
                         chosenStep = step;
                         chosenTime = time;
                     }
                 }
+            }
+        }
+
+        private int timeLeftAt(int unflown, int step) {
+            int entry = unflown * MOST_STEPS + step;
+            return entry >= 0 && entry < timeLeft.length ? timeLeft[entry] : 0;
+        }
+
+        private void putTimeLeft(int unflown, int step, int time) {
+            int entry = unflown * MOST_STEPS + step;
+            if (entry >= 0 && entry < timeLeft.length) {
+                timeLeft[entry] = time;
             }
         }
 
