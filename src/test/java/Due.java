@@ -3,8 +3,18 @@ import java.util.Arrays;
 /** Compares answers with those that are due, and ends a test with exit code 1 if one was wrong. */
 final class Due {
     private static int wrong = 0;
+    private static String sentence = "";
+    private static String printed = "";
 
     private Due() {
+    }
+
+    /**
+     * The document's words, as they stand there, that the answers from here on are due to.
+     * SentencesTest looks for these words in the document.
+     */
+    static void sentence(String words) {
+        sentence = words;
     }
 
     static void due(String call, long got, long want) {
@@ -27,7 +37,11 @@ final class Due {
 
     static void fail(String message) {
         wrong++;
-        System.out.println(message);
+        if (!printed.equals(sentence)) {
+            printed = sentence;
+            System.out.println("\"" + sentence + "\"");
+        }
+        System.out.println("    " + message);
     }
 
     static boolean hasFailed() {
