@@ -132,7 +132,18 @@ public final class FaceTest {
             Pattern pattern = Pattern.compile(isName ? "\\b" + Pattern.quote(word) + "\\b" : Pattern.quote(word));
             Due.due("no '" + word + "'", !pattern.matcher(code).find());
         }
+        libraryUses(code);
         methodsAreShort(code);
+    }
+
+    /** Of the library that LANGUAGE.md allows, the class uses these functions alone. */
+    private static void libraryUses(String code) {
+        List<String> allowed = List.of("Math.max", "Math.min", "Math.abs", "Math.floorDiv");
+        Matcher use = Pattern.compile("\\b(?:Math|Integer|Long|System|Arrays|String|List|java)\\.\\w+")
+                .matcher(code);
+        while (use.find()) {
+            Due.due(use.group() + " is allowed", allowed.contains(use.group()));
+        }
     }
 
     private static void methodsAreShort(String code) {

@@ -22,6 +22,10 @@ public final class Promise20ForwardOverlapTest {
                 + " fewer cells sees, rounded down.");
         // The first photo has fewer cells (15 of 20), then the second (15 of 25).
         three().unchangedBy(75, "forwardOverlap", 0, 0).unchangedBy(60, "forwardOverlap", 0, 1);
+        // One call's counts have no part in the next one's.
+        three().due(75, "forwardOverlap", 0, 0).due(60, "forwardOverlap", 0, 1)
+                .due(75, "forwardOverlap", 0, 0).due(100, "sideOverlap", 1, 0)
+                .due(60, "forwardOverlap", 0, 1);
         // All cells of the fewer are shared; and no cell is.
         new Survey().with("setFields", 50, 2).with("addStrip", 2, 0, 9, 4)
                 .due(100, "forwardOverlap", 0, 0);

