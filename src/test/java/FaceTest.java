@@ -1,12 +1,11 @@
 import java.lang.reflect.Constructor;
+import java.lang.reflect.Executable;
 import java.lang.reflect.Field;
-import java.lang.reflect.Member;
 import java.lang.reflect.Method;
 import java.lang.reflect.Modifier;
 import java.nio.file.Files;
 import java.nio.file.Path;
 import java.util.ArrayList;
-import java.util.Arrays;
 import java.util.Collections;
 import java.util.HashSet;
 import java.util.List;
@@ -16,22 +15,6 @@ import java.util.regex.Pattern;
 
 /** The public face is the document's, no more and no less; and LANGUAGE.md's plainest rules. */
 public final class FaceTest {
-    private static final String[] CONSTANTS = {
-        "OUTSIDE_TERRAIN = -1", "NO_SUCH_STRIP = -2", "NO_SUCH_PHOTO = -3", "BAD_VALUE = -4",
-        "FULL = -5", "NONE = -6",
-    };
-
-    private static final String[] METHODS = {
-        "resize(int,int)", "setHeight(int,int,int)", "raiseHill(int,int,int,int)",
-        "height(int,int)", "setAltitude(int)", "setFields(int,int)", "setCrab(int)",
-        "setSpeed(int,int,int)", "addStrip(int,int,int,int)", "removeStrip(int)", "stripCount()",
-        "photoCount(int)", "photoColumn(int,int)", "seesCell(int,int,int,int)",
-        "footprintSize(int,int)", "coverage(int,int)", "gapCount(int)", "gapAt(int,int)",
-        "forwardOverlap(int,int)", "sideOverlap(int,int)", "planPhotos(int)",
-        "planRowSpacing(int)", "planPhotoSpacing(int)", "applyPlan(int)",
-        "stripTime(int,boolean)", "routeTime(int,int)", "routeStep(int,int,int)",
-    };
-
     private static final String[] FORBIDDEN = {
         "throw", "throws", "try", "catch", "finally", "synchronized", "assert", "import",
         "package", "volatile", "native", "protected", "System.out", "System.exit", "Exact",
@@ -39,74 +22,86 @@ public final class FaceTest {
     };
 
     public static void main(String[] args) throws Exception {
-        classAndConstructor();
-        constants();
-        methods();
+        String text = Files.readString(Path.of("src/main/java/AerialSurvey.java"));
+        classItself();
+        members(Document.face());
+        faceInSource(Document.face(), text);
+        namesInside();
         innerClasses();
-        source(Files.readString(Path.of("src/main/java/AerialSurvey.java")));
+        source(text);
         Due.end();
     }
 
-    private static boolean isPrivate(Member member) {
-        return Modifier.isPrivate(member.getModifiers());
+    private static void classItself() {
+        Due.due("public and final",
+                AerialSurvey.class.getModifiers() == (Modifier.PUBLIC | Modifier.FINAL));
+        Due.due("no class above it", AerialSurvey.class.getSuperclass() == Object.class);
+        Due.due("interfaces", AerialSurvey.class.getInterfaces().length, 0);
     }
 
-    private static void classAndConstructor() {
-        int modifiers = AerialSurvey.class.getModifiers();
-        Due.due("public", Modifier.isPublic(modifiers));
-        Due.due("final", Modifier.isFinal(modifiers));
-        Constructor<?>[] constructors = AerialSurvey.class.getDeclaredConstructors();
-        Due.due("constructors", constructors.length, 1);
-        Due.due("public constructor", Modifier.isPublic(constructors[0].getModifiers()));
-        Due.due("constructor without arguments", constructors[0].getParameterCount(), 0);
-    }
-
-    private static void constants() throws Exception {
+    /** All that isn't private is the document's, with its modifiers, types and values. */
+    private static void members(List<String> face) throws Exception {
         List<String> found = new ArrayList<>();
         for (Field field : AerialSurvey.class.getDeclaredFields()) {
-            if (!isPrivate(field)) {
-                found.add(field.getName() + " = " + field.getInt(null));
-                Due.due("public static final int " + field.getName(),
-                        field.getModifiers() == (Modifier.PUBLIC | Modifier.STATIC | Modifier.FINAL)
-                                && field.getType() == int.class);
+            if (!Modifier.isPrivate(field.getModifiers())) {
+                found.add(Modifier.toString(field.getModifiers()) + " " + field.getType() + " "
+                        + field.getName() + " = " + field.getInt(null));
             }
         }
-        dueSame("constants", found, CONSTANTS);
+        for (Constructor<?> constructor : AerialSurvey.class.getDeclaredConstructors()) {
+            found.add(Modifier.toString(constructor.getModifiers()) + " AerialSurvey"
+                    + types(constructor));
+        }
+        for (Method method : AerialSurvey.class.getDeclaredMethods()) {
+            if (!Modifier.isPrivate(method.getModifiers())) {
+                found.add(Modifier.toString(method.getModifiers()) + " " + method.getReturnType()
+                        + " " + method.getName() + types(method));
+            }
+        }
+        List<String> want = new ArrayList<>();
+        for (String line : face) {
+            want.add(line.replaceAll("(int|boolean) \\w+(?=[,)])", "$1"));
+        }
+        Due.due("lines of the document's face", want.size(), 6 + 1 + 27);
+        Collections.sort(want);
+        Collections.sort(found);
+        Due.due("the face " + found + " is the document's " + want, found.equals(want));
     }
 
-    private static void methods() {
-        List<String> found = new ArrayList<>();
-        Set<String> publicNames = new HashSet<>();
-        for (Method method : AerialSurvey.class.getDeclaredMethods()) {
-            if (!isPrivate(method)) {
-                found.add(signature(method));
-                publicNames.add(method.getName());
-                Due.due("public int " + method.getName(),
-                        method.getModifiers() == Modifier.PUBLIC && method.getReturnType() == int.class);
-            }
+    private static String types(Executable member) {
+        List<String> types = new ArrayList<>();
+        for (Class<?> type : member.getParameterTypes()) {
+            types.add(type.getName());
         }
-        dueSame("methods", found, METHODS);
+        return "(" + String.join(", ", types) + ")";
+    }
+
+    /** With the document's names of the parameters, and in its order. */
+    private static void faceInSource(List<String> face, String text) {
+        int at = 0;
+        for (String line : face) {
+            int next = text.indexOf("\n    " + line + (line.endsWith(")") ? " {\n" : ";\n"), at);
+            Due.due("'" + line + "' in its place", next >= 0);
+            at = Math.max(at, next);
+        }
+    }
+
+    private static void namesInside() {
+        Set<String> publicNames = new HashSet<>();
+        for (Method method : AerialSurvey.class.getMethods()) {
+            publicNames.add(method.getName());
+        }
+        for (Method method : AerialSurvey.class.getDeclaredMethods()) {
+            Due.due("private " + method.getName() + " is no name of the face",
+                    Modifier.isPublic(method.getModifiers())
+                            || !publicNames.contains(method.getName()));
+        }
         for (Class<?> inside : AerialSurvey.class.getDeclaredClasses()) {
             for (Method method : inside.getDeclaredMethods()) {
                 Due.due(method.getName() + " is no name of the face",
                         !publicNames.contains(method.getName()));
             }
         }
-    }
-
-    private static String signature(Method method) {
-        List<String> types = new ArrayList<>();
-        for (Class<?> type : method.getParameterTypes()) {
-            types.add(type.getName());
-        }
-        return method.getName() + "(" + String.join(",", types) + ")";
-    }
-
-    private static void dueSame(String what, List<String> found, String[] want) {
-        List<String> wanted = new ArrayList<>(Arrays.asList(want));
-        Collections.sort(wanted);
-        Collections.sort(found);
-        Due.due(what + " " + found, found.equals(wanted));
     }
 
     private static void innerClasses() {

@@ -9,23 +9,23 @@ import java.util.stream.Collectors;
 import java.util.stream.Stream;
 
 /**
- * Every sentence of 'Description' and of the promises is named by Due.sentence in a test of that
- * promise, and what the tests name are the document's words.
+ * Every sentence of 'What it is', of 'Description' and of the promises is named by Due.sentence in
+ * a test of that section, and what the tests name are the document's words.
  */
 public final class SentencesTest {
-    private static final Path DOCUMENT = Path.of("../shared/DOC.md");
     private static final Path TESTS = Path.of("src/test/java");
     private static final Pattern SENTENCE =
             Pattern.compile("Due\\.sentence\\(((?:\\s*\\+?\\s*\"(?:[^\"\\\\]|\\\\.)*\")+)\\)");
     private static final Pattern TEXT = Pattern.compile("\"((?:[^\"\\\\]|\\\\.)*)\"");
 
     public static void main(String[] args) throws IOException {
-        String document = Files.readString(DOCUMENT);
+        String document = Document.text();
         for (int promise = 1; promise <= 28; promise++) {
             String number = (promise < 10 ? "0" : "") + promise;
             dueNamed("Promise" + number, section(document, "## Promise " + promise + ":"));
         }
         dueNamed("Description", section(document, "## Description"));
+        dueNamed("WhatItIs", section(document, "## What it is"));
         Due.end();
     }
 

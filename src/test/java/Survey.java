@@ -11,7 +11,9 @@ import java.util.Map;
  * keeps to the document's 512 calls of an object; and it can tell whether a call changed anything.
  */
 final class Survey {
-    private static final int MOST_CALLS = 512;
+    /** The document's limit. */
+    static final int MOST_CALLS = 512;
+
     private static final Map<String, Method> METHODS = methods();
 
     private final AerialSurvey survey = new AerialSurvey();
